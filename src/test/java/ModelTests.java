@@ -1015,6 +1015,28 @@ public final class ModelTests {
         }
     }
 
+    /** Every text that one byte more, less, or other makes of a good one. */
+    private static void editedTexts() {
+        String good = "place to 1 70to 0 30;place to 1 5 to 2 95 ; bridge;";
+        SlowerCork x = new SlowerCork();
+        Model y = new Model();
+        for (int at = 0; at <= good.length(); at++) {
+            for (int b = -1; b < 256; b++) {
+                for (int end = at; end <= at + 1 && end <= good.length(); end++) {
+                    String text = good.substring(0, at) + (b < 0 ? "" : Character.toString((char) b)) + good.substring(end);
+                    if ((at + b) % 40 == 0) {
+                        x = new SlowerCork();
+                        y = new Model();
+                    }
+                    feedBoth(at, x, y, text);
+                    due(at, "stream() of '" + text + "'", x.stream(), y.stream());
+                    due(at, "fault() of '" + text + "'", x.fault(), y.faultAt);
+                    due(at, "told(0) of '" + text + "'", x.told(0), y.told(0));
+                }
+            }
+        }
+    }
+
     /** Now and then a number that is out of the bounds. */
     private static int near(Random r, int least, int greatest) {
         if (r.nextInt(25) == 0) {
@@ -1203,9 +1225,42 @@ public final class ModelTests {
         }
     }
 
+    /** Places 0 to 2 send corks into a line at chance delays, so that often none of the three is best by itself. */
+    private static void mixedByDelays(Random r) {
+        int[][] parts = {{100}, {50, 50}, {25, 75}, {10, 90}, {30, 30, 40}, {50, 25, 25}, {25, 25, 25, 25}, {40, 10, 20, 30}};
+        for (int i = 0; i < 250; i++) {
+            StringBuilder text = new StringBuilder();
+            for (int p = 0; p < 3; p++) {
+                text.append("place ");
+                List<Integer> goals = new ArrayList<>(List.of(3, 4, 5, 6, 7, 8, 9, 10, 11));
+                for (int c : parts[r.nextInt(parts.length)]) {
+                    text.append("to ").append(goals.remove(r.nextInt(goals.size()))).append(' ').append(c);
+                }
+                text.append(';');
+            }
+            for (int p = 3; p < 11; p++) {
+                text.append("place to ").append(p + 1).append(" 100;");
+            }
+            SlowerCork x = new SlowerCork();
+            Model y = new Model();
+            feedBoth(i, x, y, text + "bridge;");
+            due(i, "stream()", x.stream(), y.stream());
+            for (int kinds = 0; kinds < 3; kinds++) {
+                int kind = r.nextInt(3);
+                due(i, "cork()", x.cork(kinds % 2, 0, kind), y.cork(kinds % 2, 0, kind));
+                for (int what = 0; what <= 13; what++) {
+                    int n = 2 + what / 7;
+                    due(i, "mixed(0, " + n + ", " + what % 7 + ") of " + text, x.mixed(0, n, what % 7), y.mixed(0, n, what % 7));
+                }
+            }
+        }
+    }
+
     public static void main(String[] args) {
         texts(new Random(1));
+        editedTexts();
         threeAreMixed();
+        mixedByDelays(new Random(2));
         int runs = args.length > 0 ? Integer.parseInt(args[0]) : 150;
         for (int run = 0; run < runs; run++) {
             oneRun(run, new Random(1000 + run));
