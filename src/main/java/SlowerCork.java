@@ -1224,13 +1224,13 @@ public final class SlowerCork {
             }
             int goes = goesIn(set[side * OF_CORK + KIND], own);
             for (int go = 0; go < goes && bed.isAheadOfBridge(spot[side]); go++) {
-                spot[side] = bed.goalBy(spot[side], drawOf(100));
+                spot[side] = bed.goalBy(spot[side], drawOfHundred());
             }
         }
 
-        private int drawOf(int n) {
+        private int drawOfHundred() {
             drawn = (drawn * 1103515245L + 12345L) % 2147483648L;
-            return (int) (drawn / 65536 % n);
+            return (int) (drawn / 65536 % 100);
         }
 
         /** How many of n suits side 0 wins; the drift is then where it was. */
